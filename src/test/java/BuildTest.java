@@ -5,7 +5,7 @@ public final class BuildTest {
         checkedTakenRun();
         checkingStopsAtTheFirstOther();
         cutOffWhereNothingChanges();
-        newestEntryFirst();
+        everyEntryIsLookedAt();
         entriesThatGoMeanwhileStillCount();
         cacheIsReadAfterTheOwnTraceWasChecked();
         oldestGoesAtSixteen();
@@ -87,8 +87,7 @@ public final class BuildTest {
         Check.trace("steady ran again", x, 0, 1, 7L, 0, 9L);
     }
 
-    /** Two entries agree at once: their keys had other values in between, and have them again. */
-    private static void newestEntryFirst() {
+    private static void everyEntryIsLookedAt() {
         TraceBuilder x = new TraceBuilder();
         x.input(0, 1L);
         x.input(1, 5L);
@@ -107,70 +106,46 @@ public final class BuildTest {
     }
 
     /**
-     * The oldest entry is pushed out by what runs while a newer one is checked, and is still taken:
-     * the cache is gone through as it was when the look into it began.
+     * A full cache whose oldest entry is the only one for key 3 that agrees when key 1 is 10, as it
+     * is then; none for key 2 agrees, so building it pushes that oldest entry out.
      */
-    private static void entriesThatGoMeanwhileStillCount() {
+    private static TraceBuilder fullWithOldestThatAgrees() {
         TraceBuilder x = new TraceBuilder();
-        x.input(0, 1L);
         x.input(1, 10L);
         x.task(2, 0, 1, -1, -1);
-        x.task(3, 0, 0, 2, -1);
+        x.task(3, 0, 2, -1, -1);
         x.build(0, 2);
         x.shrink(0);
         x.build(0, 3);
-        Check.cache("one", x, 3);
         x.input(1, 11L);
         x.build(0, 3);
-        Check.cache("three", x, 3, 2, 3);
+        Check.cache("the last of three is no good", x, 3, 2, 3);
+        x.task(6, 0, 5, -1, -1);
         for (int i = 0; i < 13; i++) {
-            x.task(4, 0, -1, -1, -1);
             x.input(5, i);
-            x.task(6, 0, 5, -1, -1);
             x.build(0, 6);
-            fill(x, i);
         }
-        Check.same("full", x.count(7), 16);
-        Check.same("the oldest is one for 3", x.cached(0), 3);
-        x.forget(1);
+        Check.cache("full", x, 3, 2, 3, 6, 6, 6, 6, 6, 6, 6, 6, 6, 6, 6, 6, 6);
         x.input(1, 10L);
-        Check.same("built by the other", x.build(1, 3), 11L);
-        Check.trace("taken from the entry that went", x, 1, 3, 11L, 0, 1L, 2, 10L);
-        Check.same("taken", x.count(2), 1);
-        Check.same("the newest is what ran meanwhile", x.cached(15), 2);
-        Check.same("the oldest went", x.cached(0), 2);
+        return x;
     }
 
-    /** Keeps every run of 6 in the cache: a run with another value each time. */
-    private static void fill(TraceBuilder x, int i) {
-        Check.same("filled", x.count(7), 4 + i);
+    /** Pushed out while a newer one is checked: the look into the cache had begun before. */
+    private static void entriesThatGoMeanwhileStillCount() {
+        TraceBuilder x = fullWithOldestThatAgrees();
+        Check.same("stale, for key 2 runs", x.stale(1, 3), true);
+        Check.same("built by the other", x.build(1, 3), 10L);
+        Check.trace("built by the other", x, 1, 3, 10L, 2, 10L);
+        Check.same("taken from the entry that went", x.count(2), 1);
+        Check.cache("only 2 ran", x, 2, 3, 6, 6, 6, 6, 6, 6, 6, 6, 6, 6, 6, 6, 6, 2);
     }
 
-    /** What comes into the cache while the own trace is checked belongs to the look into it. */
+    /** Pushed out while the own trace is checked: the look into the cache begins behind that. */
     private static void cacheIsReadAfterTheOwnTraceWasChecked() {
-        TraceBuilder x = new TraceBuilder();
-        x.input(0, 1L);
-        x.input(5, 0L);
-        x.task(1, 0, 0, -1, -1);
-        x.task(2, 0, 1, -1, -1);
-        x.build(0, 2);
-        for (int i = 0; i < 14; i++) {
-            x.input(5, i);
-            x.task(6, 0, 5, -1, -1);
-            if (i == 0) {
-                x.build(1, 6);
-            } else {
-                x.build(0, 6);
-            }
-        }
-        Check.same("full", x.count(7), 16);
-        Check.same("the oldest", x.cached(0), 1);
-        Check.same("the second oldest", x.cached(1), 2);
-        x.input(0, 2L);
-        Check.same("built", x.build(0, 2), 2L);
-        x.input(0, 1L);
-        Check.same("the old entries are gone", x.build(1, 2), 1L);
+        TraceBuilder x = fullWithOldestThatAgrees();
+        Check.same("built by the owner", x.build(0, 3), 10L);
         Check.same("nothing was taken", x.count(2), 0);
+        Check.cache("2 and 3 ran", x, 3, 6, 6, 6, 6, 6, 6, 6, 6, 6, 6, 6, 6, 6, 2, 3);
     }
 
     private static void oldestGoesAtSixteen() {
