@@ -11,8 +11,20 @@ final class Check {
     private static final int COUNTS = 11;
 
     private static int wrong = 0;
+    private static String prefix = "";
 
     private Check() {
+    }
+
+    /** A test of one sentence of the document; what it throws unasked is a wrong answer too. */
+    static void sentence(String sentence, Runnable test) {
+        prefix = "'" + sentence + "': ";
+        try {
+            test.run();
+        } catch (RuntimeException e) {
+            report("the test", e.toString(), "no exception");
+        }
+        prefix = "";
     }
 
     static void same(String what, long got, long due) {
@@ -93,6 +105,6 @@ final class Check {
 
     private static void report(String what, String got, String due) {
         wrong++;
-        System.out.println(what + " answered " + got + ", due is " + due);
+        System.out.println(prefix + what + " answered " + got + ", due is " + due);
     }
 }
